@@ -18,6 +18,8 @@ final class ProofsTest {
         shownOfThreeSheets();
         shownIsTheProofNotTheText();
         shownByLogFollowsEdits();
+        shownByLogOfFullSheets();
+        shownByLogOfTheLongestRun();
         Check.end();
     }
 
@@ -176,6 +178,24 @@ final class ProofsTest {
                 checkAllSheetsByLog(p);
             }
         }
+    }
+
+    private static void shownByLogOfFullSheets() {
+        int[] lengths = {31, 32, 33, 63, 64, 65, 80};
+        for (int length : lengths) {
+            checkAllSheetsByLog(Shop.withSignedText(Shop.letters(length)));
+        }
+    }
+
+    /** An object is promised 512 calls: one adds the document, one signs it, one asks, and the others may all edit. */
+    private static void shownByLogOfTheLongestRun() {
+        Proofpress p = Shop.withText(Shop.letters(79));
+        for (int i = 0; i < 215; i++) {
+            p.delete(0, 0);
+            p.insert(0, 0, 128512 + i % 16);
+        }
+        p.sign(0);
+        Check.due("20 the last of 509 edits", 128512 + 214 % 16, () -> p.shownByLog(0, 0, 8));
     }
 
     private static void checkAllSheetsByLog(Proofpress p) {

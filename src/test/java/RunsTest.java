@@ -12,6 +12,8 @@ final class RunsTest {
 
     private static final int RUNS = 400;
     private static final int CALLS = 512;
+    private static final int LONG_RUNS = 6;
+    private static final int LONG_CALLS = 4000;
     /** Calls that build up a shop come more often than those that only read it. */
     private static final String[] BUILDERS = {
         "insert", "insert", "insert", "insert", "insert", "insert", "delete", "delete", "sign", "sign", "sign",
@@ -34,6 +36,10 @@ final class RunsTest {
         for (int run = 0; run < RUNS && wrong < 20; run++) {
             seed = 1_000_003L * run + 17;
             compareRun(run);
+        }
+        for (int run = 0; run < LONG_RUNS && wrong < 20; run++) {
+            seed = 1_000_033L * run + 29;
+            useBehindTheLastCall(run);
         }
         for (Method method : ASKED) {
             if (!ANSWERED.containsKey(method.getName())) {
@@ -66,8 +72,7 @@ final class RunsTest {
         // Some runs edit all the time, some print nearly always.
         int readers = 20 + 20 * (run % 3);
         for (int call = 0; call < CALLS; call++) {
-            Method method = next(100) < readers ? ASKED.get(next(ASKED.size()))
-                    : BY_NAME.get(BUILDERS[next(BUILDERS.length)]);
+            Method method = nextMethod(readers);
             Object[] arguments = argumentsFor(method, model, run);
             Object got = answer(method, asked, arguments);
             Object want = answer(MODELLED.get(method.getName()), model, arguments);
@@ -81,6 +86,26 @@ final class RunsTest {
                 ANSWERED.merge(method.getName(), 1, Integer::sum);
             }
         }
+    }
+
+    /** What calls behind the 512th answer is free, but no call may throw what the document does not name. */
+    private static void useBehindTheLastCall(int run) {
+        Proofpress asked = new Proofpress();
+        Model model = new Model();
+        for (int call = 0; call < LONG_CALLS; call++) {
+            Method method = nextMethod(30);
+            Object[] arguments = argumentsFor(method, model, run);
+            Object got = answer(method, asked, arguments);
+            answer(MODELLED.get(method.getName()), model, arguments);
+            if (got instanceof Class && !Arrays.asList(method.getExceptionTypes()).contains(got)) {
+                wrong++;
+                System.out.println("long run " + run + " call " + call + ": " + method.getName() + " threw " + got);
+            }
+        }
+    }
+
+    private static Method nextMethod(int readers) {
+        return next(100) < readers ? ASKED.get(next(ASKED.size())) : BY_NAME.get(BUILDERS[next(BUILDERS.length)]);
     }
 
     private static Object answer(Method method, Object on, Object[] arguments) {
