@@ -16,6 +16,9 @@ final class CommentsTest {
         spansMove();
         spansOfOtherDocumentsStay();
         answeredSpansAreGone();
+        eightComments();
+        spansAtTheEdges();
+        answeredSpanAndOthers();
         Check.end();
     }
 
@@ -144,5 +147,60 @@ final class CommentsTest {
         p.answer(0);
         Check.thrown("13 answered", STATE, () -> p.spanFrom(0));
         Check.thrown("14 answered", STATE, () -> p.spanTo(0));
+    }
+
+    /** At most 8 comments have numbers from 0; a comment is open until it is answered. */
+    private static void eightComments() {
+        Proofpress p = Shop.withText(Shop.letters(80));
+        for (int i = 0; i < 8; i++) {
+            int number = i;
+            Check.thrown("12 number " + i + " is not there yet", MISSING, () -> p.isOpen(number));
+            Check.due("10 number " + i, i, () -> p.comment(0, number, 80 - number));
+            Check.due("12 number " + i + " is open", true, () -> p.isOpen(number));
+        }
+        for (int i = 7; i >= 0; i--) {
+            int number = i;
+            Check.due("13 of number " + i, i, () -> p.spanFrom(number));
+            Check.due("14 of number " + i, 80 - i, () -> p.spanTo(number));
+            Check.due("11 so many are open then", i, () -> p.answer(number));
+            Check.due("12 number " + i + " is answered", false, () -> p.isOpen(number));
+        }
+    }
+
+    /** The shortest and the longest span, at the start and at the end. */
+    private static void spansAtTheEdges() {
+        int[][] spans = {{0, 1}, {0, 80}, {79, 80}, {0, 79}, {1, 80}, {39, 41}};
+        Proofpress p = Shop.withText(Shop.letters(80));
+        for (int i = 0; i < spans.length; i++) {
+            int number = i;
+            int from = spans[i][0];
+            int to = spans[i][1];
+            Check.due("10 from " + from + " to " + to, i, () -> p.comment(0, from, to));
+            Check.due("13 from " + from, from, () -> p.spanFrom(number));
+            Check.due("14 to " + to, to, () -> p.spanTo(number));
+        }
+        Proofpress one = Shop.withText("a");
+        Check.due("10 the only character", 0, () -> one.comment(0, 0, 1));
+        one.insert(0, 0, 'b');
+        checkSpan(one, 0, 1, 2, "insertion in front of the only character");
+        one.insert(0, 2, 'c');
+        checkSpan(one, 0, 1, 2, "insertion behind the only character");
+        one.delete(0, 0);
+        checkSpan(one, 0, 0, 1, "deletion in front of the only character");
+        one.delete(0, 1);
+        checkSpan(one, 0, 0, 1, "deletion behind the only character");
+    }
+
+    private static void answeredSpanAndOthers() {
+        Proofpress p = Shop.withText("abcdef");
+        p.comment(0, 0, 3);
+        p.comment(0, 4, 6);
+        p.answer(0);
+        for (int i = 0; i < 4; i++) {
+            p.delete(0, 0);
+        }
+        checkSpan(p, 1, 0, 2, "an answered span is deleted in front of it");
+        Check.due("12 the answered one stays answered", false, () -> p.isOpen(0));
+        Check.due("10 the next number", 2, () -> p.comment(0, 0, 1));
     }
 }

@@ -24,6 +24,11 @@ final class OrdersTest {
         lateness();
         nextOrders();
         nextSheets();
+        stockAtItsEnds();
+        sixOrders();
+        freePaperAtItsEdges();
+        hoursAtTheirEnds();
+        nextOrderByEachRule();
         Check.end();
     }
 
@@ -319,5 +324,106 @@ final class OrdersTest {
             states.append(p.stateOf(order, sheet));
         }
         return states.toString();
+    }
+
+    /** 0 to 9999 sheets of paper and 0 to 99 plates at a time, up to 99999 and 999. */
+    private static void stockAtItsEnds() {
+        Proofpress p = new Proofpress();
+        Check.due("21 the most at a time", 9999, () -> p.supply(9999, 99));
+        Check.due("21 no paper", 9999, () -> p.supply(0, 99));
+        Check.due("21 no plates", 19998, () -> p.supply(9999, 0));
+        Check.due("23 plates", 198, p::plates);
+        Proofpress full = new Proofpress();
+        for (int i = 0; i < 10; i++) {
+            full.supply(9999, 99);
+        }
+        Check.thrown("21 100000 sheets of paper", STATE, () -> full.supply(10, 0));
+        Check.thrown("21 1000 plates", STATE, () -> full.supply(0, 10));
+        Check.due("21 99998 sheets of paper", 99998, () -> full.supply(8, 8));
+        Check.thrown("21 two more sheets", STATE, () -> full.supply(2, 1));
+        Check.thrown("21 two more plates", STATE, () -> full.supply(1, 2));
+        Check.due("21 99999 sheets of paper and 999 plates", 99999, () -> full.supply(1, 1));
+        Check.due("23 999 plates", 999, full::plates);
+    }
+
+    /** At most 6 orders have numbers from 0. */
+    private static void sixOrders() {
+        Proofpress p = Shop.withSignedText("ab");
+        p.supply(6, 6);
+        for (int i = 0; i < 6; i++) {
+            int number = i;
+            Check.thrown("25 number " + i + " is not there yet", MISSING, () -> p.needs(number));
+            Check.due("24 number " + i, i, () -> p.order(0, 1, 9 - number));
+            Check.due("25 number " + i + " is there", 1, () -> p.needs(number));
+            Check.due("26 free paper then", 5 - i, p::freePaper);
+        }
+        for (int i = 5; i >= 0; i--) {
+            int number = i;
+            Check.due("30 the last is due first", i, p::nextOrder);
+            Shop.printThrough(p, i, 0);
+            Check.due("28 number " + i + " is done", true, () -> p.isDone(number));
+        }
+        Check.thrown("30 all are done", STATE, p::nextOrder);
+        Check.due("22 no paper is left", 0, p::paper);
+        Check.due("23 no plate is left", 0, p::plates);
+    }
+
+    /** Free paper is just 0, just less, and just enough. */
+    private static void freePaperAtItsEdges() {
+        Proofpress p = Shop.withSignedText(Shop.letters(32));
+        p.supply(500, 9);
+        Check.due("24 all the paper for the most copies", 0, () -> p.order(0, 500, 5));
+        Check.due("26 just 0", 0, p::freePaper);
+        Shop.type(p, 0, "x");
+        Check.due("26 an unsigned sheet needs none", 0, p::freePaper);
+        p.sign(0);
+        Check.due("25 two sheets of 500 copies", 1000, () -> p.needs(0));
+        Check.due("26 less than 0", -500, p::freePaper);
+        p.supply(500, 0);
+        Check.due("26 just 0 again", 0, p::freePaper);
+        Check.thrown("24 one copy on two sheets needs 2", NO_PAPER, () -> p.order(0, 1, 5));
+        p.supply(1, 0);
+        Check.thrown("24 one is too few", NO_PAPER, () -> p.order(0, 1, 5));
+        p.supply(1, 0);
+        Check.due("24 two are enough", 1, () -> p.order(0, 1, 5));
+    }
+
+    /** The hour is 0 at first, and 999 at most, and so is that at which an order is due. */
+    private static void hoursAtTheirEnds() {
+        Proofpress p = Shop.withOrder("ab", 1);
+        p.order(0, 1, 0);
+        p.order(0, 1, 999);
+        p.order(0, 1, 998);
+        Check.due("29 due at hour 0 at hour 0", 0, () -> p.lateBy(1));
+        p.pass(1);
+        Check.due("29 due at hour 0 at hour 1", 1, () -> p.lateBy(1));
+        p.pass(8);
+        Check.due("29 an hour before it is due", 0, () -> p.lateBy(0));
+        Shop.passTo(p, 998);
+        Check.due("29 due at hour 998 at hour 998", 0, () -> p.lateBy(3));
+        p.pass(1);
+        Check.due("29 due at hour 0 at hour 999", 999, () -> p.lateBy(1));
+        Check.due("29 due at hour 999 at hour 999", 0, () -> p.lateBy(2));
+        Check.due("29 due at hour 998 at hour 999", 1, () -> p.lateBy(3));
+    }
+
+    private static void nextOrderByEachRule() {
+        checkNext(0, 5, 20, 5, 20, "the lowest number");
+        checkNext(1, 5, 20, 6, 20, "one copy more");
+        checkNext(0, 6, 20, 5, 20, "one copy more");
+        checkNext(1, 500, 20, 1, 19, "an hour earlier, though fewer copies");
+        checkNext(0, 1, 19, 500, 20, "an hour earlier, though fewer copies");
+        checkNext(0, 1, 0, 500, 999, "the first hour");
+        checkNext(1, 500, 999, 1, 0, "the first hour");
+    }
+
+    private static void checkNext(int want, int copies0, int due0, int copies1, int due1, String what) {
+        Proofpress p = Shop.withSignedText("ab");
+        p.supply(9999, 99);
+        p.order(0, copies0, due0);
+        p.order(0, copies1, due1);
+        Check.due("30 " + what, want, p::nextOrder);
+        Shop.printThrough(p, want, 0);
+        Check.due("30 then the other: " + what, 1 - want, p::nextOrder);
     }
 }

@@ -23,6 +23,13 @@ final class PrintingTest {
         plateExceptions();
         accounts();
         wasteOfSheetsThatAreGone();
+        smallestAndGreatestPlate();
+        hoursOfThePressAtTheirEnds();
+        printedAgainAndAgain();
+        emptyPress();
+        pressKeepsItsOwnProof();
+        platesOfOtherSheetsDoNotCount();
+        onlyTheLastPlateCounts();
         Check.end();
     }
 
@@ -278,6 +285,119 @@ final class PrintingTest {
         Check.due("39 stays wasted, and the last print is not", 10, () -> p.wasted(0));
         Check.due("40 stays as well", 100L, () -> p.cost(0));
         Check.due("38 stays as well", 2, () -> p.platesFor(0));
+    }
+
+    /** A sheet shows at least one character and at most 32. */
+    private static void smallestAndGreatestPlate() {
+        Proofpress one = Shop.withText("");
+        one.insert(0, 0, 128527);
+        one.sign(0);
+        one.supply(1, 1);
+        one.order(0, 1, 0);
+        one.print(0, 0);
+        Check.due("36 one character", 1, () -> one.plateLength(0, 0));
+        Check.due("37 a symbol is one character", 128527, () -> one.plateAt(0, 0, 0));
+        Check.thrown("37 and no more", STATE, () -> one.plateAt(0, 0, 1));
+        String text = Shop.letters(80);
+        Proofpress full = Shop.withOrder(text, 1);
+        full.print(0, 2);
+        Check.due("36 a full sheet", 32, () -> full.plateLength(0, 2));
+        String want = new StringBuilder(text.substring(56, 64) + text.substring(32, 56)).reverse().toString();
+        Check.due("37 a full sheet, mirrored", want, () -> plateOf(full, 0, 2));
+        Check.thrown("37 behind a full sheet", STATE, () -> full.plateAt(0, 2, 32));
+    }
+
+    /** A sheet leaves the press at its hour, not before, also when that is the last hour. */
+    private static void hoursOfThePressAtTheirEnds() {
+        Proofpress p = Shop.withOrder("ab", 500);
+        Shop.passTo(p, 993);
+        Check.due("32 the last hour", 999, () -> p.print(0, 0));
+        Check.due("34 an hour before", 0, () -> p.pass(5));
+        Check.due("33 it is there", 0, p::onPress);
+        Check.due("27 it is there", 'o', () -> p.stateOf(0, 0));
+        Check.due("34 the last hour", 1, () -> p.pass(1));
+        Check.due("33 the press is empty", -1, p::onPress);
+        Check.due("27 it is printed", 'p', () -> p.stateOf(0, 0));
+        p.order(0, 1, 0);
+        Check.due("32 behind the last hour", 1000, () -> p.print(1, 0));
+        Check.due("27 on the press for ever", 'o', () -> p.stateOf(1, 0));
+        Proofpress q = Shop.withOrder("ab", 99);
+        Check.due("32 from hour 0", 1, () -> q.print(0, 0));
+        Check.due("34 the most hours at once", 1, () -> q.pass(100));
+        Check.due("35 all of them", 100, q::hour);
+        q.insert(0, 0, 'x');
+        q.sign(0);
+        Check.due("32 from hour 100", 101, () -> q.print(0, 0));
+        Check.due("34 just its hour", 1, () -> q.pass(1));
+    }
+
+    private static void printedAgainAndAgain() {
+        Proofpress p = Shop.withOrder("ab", 500);
+        for (int i = 0; i < 5; i++) {
+            int before = i;
+            Shop.printThrough(p, 0, 0);
+            Check.due("39 all but the last", 500 * before, () -> p.wasted(0));
+            Check.due("38 a plate each time", before + 1, () -> p.platesFor(0));
+            Check.due("40 all of them", 1030L * (before + 1), () -> p.cost(0));
+            Check.due("22 the stock", 9999 - 500 * (before + 1), p::paper);
+            Check.due("23 the stock", 98 - before, p::plates);
+            p.insert(0, 0, 'a' + i);
+            p.sign(0);
+        }
+    }
+
+    private static void emptyPress() {
+        Proofpress p = new Proofpress();
+        Check.due("33 no order has number -1", -1, p::onPress);
+        Check.due("34 nothing leaves an empty press", 0, () -> p.pass(1));
+        Proofpress q = Shop.withOrder("ab", 1);
+        Check.due("33 an order that waits is not on the press", -1, q::onPress);
+        Check.due("34 nothing leaves it", 0, () -> q.pass(100));
+        Check.due("27 it waits", 'w', () -> q.stateOf(0, 0));
+    }
+
+    /** What is printed, and what the plate shows, is the proof with which the sheet was put on the press. */
+    private static void pressKeepsItsOwnProof() {
+        Proofpress p = Shop.withOrder("ab", 1);
+        p.insert(0, 2, 'c');
+        p.print(0, 0);
+        p.sign(0);
+        Check.due("19 the proof is another now", (int) 'c', () -> p.shown(0, 0, 10));
+        p.pass(1);
+        Check.due("27 the earlier one was printed", 's', () -> p.stateOf(0, 0));
+        p.delete(0, 2);
+        p.sign(0);
+        Check.due("27 the earlier one is back", 'p', () -> p.stateOf(0, 0));
+        Check.thrown("32 it is good", STATE, () -> p.print(0, 0));
+        Check.due("38 one plate", 1, () -> p.platesFor(0));
+    }
+
+    /** A plate is not taken when the last one of this sheet of the order has the same characters: only of this one. */
+    private static void platesOfOtherSheetsDoNotCount() {
+        Proofpress p = Shop.withOrder("a".repeat(64), 1);
+        p.order(0, 1, 5);
+        Shop.printThrough(p, 0, 0);
+        Shop.printThrough(p, 0, 1);
+        Check.due("38 two sheets with the same characters", 2, () -> p.platesFor(0));
+        Check.due("37 which are the same", plateOf(p, 0, 0), () -> plateOf(p, 0, 1));
+        Shop.printThrough(p, 1, 0);
+        Check.due("38 another order with the same characters", 1, () -> p.platesFor(1));
+        Check.due("23 three plates are gone", 96, p::plates);
+    }
+
+    private static void onlyTheLastPlateCounts() {
+        Proofpress p = Shop.withOrder("ab", 1);
+        Shop.printThrough(p, 0, 0);
+        p.insert(0, 0, 'x');
+        p.sign(0);
+        Shop.printThrough(p, 0, 0);
+        p.delete(0, 0);
+        p.sign(0);
+        Check.due("27 the first print counts no more", 's', () -> p.stateOf(0, 0));
+        Shop.printThrough(p, 0, 0);
+        Check.due("38 the first plate counts no more", 3, () -> p.platesFor(0));
+        Check.due("23 three plates are gone", 96, p::plates);
+        Check.due("39 two prints are wasted", 2, () -> p.wasted(0));
     }
 
     private static String plateOf(Proofpress p, int order, int sheet) {

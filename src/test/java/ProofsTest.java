@@ -20,6 +20,8 @@ final class ProofsTest {
         shownByLogFollowsEdits();
         shownByLogOfFullSheets();
         shownByLogOfTheLongestRun();
+        everyLengthOnEverySheet();
+        signedAtTheEdges();
         Check.end();
     }
 
@@ -165,17 +167,25 @@ final class ProofsTest {
     /** Insertions and deletions before, at and behind each character, and refused edits between them. */
     private static void shownByLogFollowsEdits() {
         Proofpress p = Shop.withText("");
+        StringBuilder text = new StringBuilder();
         for (int i = 0; i < 120; i++) {
-            int size = p.length(0);
+            int size = text.length();
             if (size < 70 && i % 4 != 3) {
-                p.insert(0, i * 7 % (size + 1), 'a' + i % 26);
+                int place = i * 7 % (size + 1);
+                char code = (char) ('a' + i % 26);
+                p.insert(0, place, code);
+                text.insert(place, code);
             } else {
-                p.delete(0, i * 5 % size);
+                int place = i * 5 % size;
+                p.delete(0, place);
+                text.deleteCharAt(place);
             }
-            Check.thrown("4 a refused edit is not in the log", OUTSIDE, () -> p.delete(0, 80));
+            if (i % 6 == 0) {
+                Check.thrown("4 a refused edit is not in the log", OUTSIDE, () -> p.delete(0, 80));
+            }
             if (i % 40 == 39) {
                 p.sign(0);
-                checkAllSheetsByLog(p);
+                checkAllSheetsByLog(p, text.toString());
             }
         }
     }
@@ -183,13 +193,17 @@ final class ProofsTest {
     private static void shownByLogOfFullSheets() {
         int[] lengths = {31, 32, 33, 63, 64, 65, 80};
         for (int length : lengths) {
-            checkAllSheetsByLog(Shop.withSignedText(Shop.letters(length)));
+            checkAllSheetsByLog(Shop.withSignedText(Shop.letters(length)), Shop.letters(length));
         }
     }
 
     /** An object is promised 512 calls: one adds the document, one signs it, one asks, and the others may all edit. */
     private static void shownByLogOfTheLongestRun() {
-        Proofpress p = Shop.withText(Shop.letters(79));
+        Proofpress p = new Proofpress();
+        p.addDocument();
+        for (int i = 0; i < 79; i++) {
+            p.insert(0, i, 'a');
+        }
         for (int i = 0; i < 215; i++) {
             p.delete(0, 0);
             p.insert(0, 0, 128512 + i % 16);
@@ -198,17 +212,66 @@ final class ProofsTest {
         Check.due("20 the last of 509 edits", 128512 + 214 % 16, () -> p.shownByLog(0, 0, 8));
     }
 
-    private static void checkAllSheetsByLog(Proofpress p) {
-        String text = Shop.textOf(p, 0);
-        for (int sheet = 0; sheet < p.sheets(0); sheet++) {
+    private static void checkAllSheetsByLog(Proofpress p, String text) {
+        int sheets = (text.length() + 31) / 32;
+        for (int sheet = 0; sheet < sheets; sheet++) {
             for (int index = 0; index < 32; index += 3) {
                 int s = sheet;
                 int i = index;
-                int place = 8 * p.pageOn(0, s, i / 8) + i % 8;
-                int want = place < text.length() ? text.charAt(place) : -1;
+                int want = codeOn(text, sheets, sheet, index);
                 Check.due("20 sheet " + s + " index " + i, want, () -> p.shownByLog(0, s, i));
             }
         }
+    }
+
+    /** What the document says of pages and sheets, once more. */
+    private static int codeOn(String text, int sheets, int sheet, int index) {
+        int n = 4 * sheets;
+        int[] pages = {n - 1 - 2 * sheet, 2 * sheet, 2 * sheet + 1, n - 2 - 2 * sheet};
+        int place = 8 * pages[index / 8] + index % 8;
+        return place < text.length() ? text.charAt(place) : -1;
+    }
+
+    /** Pages that are full, that have as many characters as there are, and that are empty, on each sheet. */
+    private static void everyLengthOnEverySheet() {
+        for (int length = 1; length <= 80; length++) {
+            String text = Shop.letters(length);
+            int sheets = (length + 31) / 32;
+            Proofpress p = Shop.withText(text);
+            Check.due("15 sheets of " + length, sheets, () -> p.sign(0));
+            for (int i = 0; i < 32 * sheets; i++) {
+                int sheet = i / 32;
+                int index = i % 32;
+                int want = codeOn(text, sheets, sheet, index);
+                Check.due("19 of " + length + " sheet " + sheet + " index " + index, want,
+                        () -> p.shown(0, sheet, index));
+                Check.due("20 of " + length + " sheet " + sheet + " index " + index, want,
+                        () -> p.shownByLog(0, sheet, index));
+            }
+        }
+    }
+
+    private static void signedAtTheEdges() {
+        Proofpress p = Shop.withText("");
+        p.insert(0, 0, 'a');
+        p.delete(0, 0);
+        Check.thrown("15 a text that is empty again", STATE, () -> p.sign(0));
+        p.insert(0, 0, ' ');
+        Check.due("15 a single blank is a text", 1, () -> p.sign(0));
+        Check.due("16 its version", 3, () -> p.signed(0));
+        Check.due("19 a blank is a character", 32, () -> p.shown(0, 0, 8));
+        Check.due("19 and nothing is behind it", -1, () -> p.shown(0, 0, 9));
+        Check.due("19 nor at the last index", -1, () -> p.shown(0, 0, 31));
+        Proofpress full = new Proofpress();
+        for (int document = 0; document < 3; document++) {
+            full.addDocument();
+            Shop.type(full, document, Shop.letters(80 - document));
+        }
+        Check.due("15 the last document", 3, () -> full.sign(2));
+        Check.due("16 of its own version", 78, () -> full.signed(2));
+        Check.thrown("16 the others have no proof", STATE, () -> full.signed(0));
+        Check.due("15 the first document", 3, () -> full.sign(0));
+        Check.thrown("15 the same version twice", STATE, () -> full.sign(0));
     }
 
     /** A dot stands for no character. */

@@ -5,6 +5,8 @@ final class SharesTest {
         shares();
         sharesOfSeveralOrders();
         means();
+        sharesOfAllOrders();
+        meansAtTheirEnds();
         Check.end();
     }
 
@@ -58,5 +60,47 @@ final class SharesTest {
         p.sign(0);
         p.delete(0, 0);
         Check.due("42 of the texts, not of the proofs", 5.0 / 3.0, p::meanLength);
+    }
+
+    /** Six orders of three sheets: from none of 18 to all of them. */
+    private static void sharesOfAllOrders() {
+        Proofpress p = Shop.withSignedText(Shop.letters(80));
+        p.supply(9999, 99);
+        for (int i = 0; i < 6; i++) {
+            p.order(0, 1, 5);
+        }
+        for (int i = 0; i < 18; i++) {
+            float before = (float) i / 18f;
+            Check.due("41 " + i + " of 18", before, p::goodShare);
+            p.print(i / 3, i % 3);
+            Check.due("41 " + i + " of 18 and one on the press", before, p::goodShare);
+            p.pass(1);
+        }
+        Check.due("41 all", 1f, p::goodShare);
+        Shop.retype(p, 0, "x");
+        Check.due("41 before it is signed", 1f, p::goodShare);
+        p.sign(0);
+        Check.due("41 none, and of six sheets", 0f, p::goodShare);
+        p.print(5, 0);
+        p.pass(1);
+        Check.due("41 one of six", 1f / 6f, p::goodShare);
+    }
+
+    private static void meansAtTheirEnds() {
+        Proofpress p = new Proofpress();
+        for (int document = 0; document < 3; document++) {
+            p.addDocument();
+            Shop.type(p, document, Shop.letters(80));
+            Check.due("42 full documents", 80.0, p::meanLength);
+        }
+        p.delete(2, 0);
+        Check.due("42 one character less", 239.0 / 3.0, p::meanLength);
+        Proofpress q = new Proofpress();
+        for (int document = 0; document < 3; document++) {
+            q.addDocument();
+            Check.due("42 empty documents", 0.0, q::meanLength);
+        }
+        q.insert(1, 0, 'a');
+        Check.due("42 one character", 1.0 / 3.0, q::meanLength);
     }
 }

@@ -27,14 +27,15 @@ final class Shop {
 
     /** Puts the text behind that of the document. */
     static void type(Proofpress p, int document, String text) {
+        int end = p.length(document);
         for (int i = 0; i < text.length(); i++) {
-            p.insert(document, p.length(document), text.charAt(i));
+            p.insert(document, end + i, text.charAt(i));
         }
     }
 
     static void retype(Proofpress p, int document, String text) {
-        while (p.length(document) > 0) {
-            p.delete(document, p.length(document) - 1);
+        for (int place = p.length(document) - 1; place >= 0; place--) {
+            p.delete(document, place);
         }
         type(p, document, text);
     }
@@ -50,7 +51,8 @@ final class Shop {
 
     static String textOf(Proofpress p, int document) {
         StringBuilder text = new StringBuilder();
-        for (int i = 0; i < p.length(document); i++) {
+        int length = p.length(document);
+        for (int i = 0; i < length; i++) {
             text.appendCodePoint(p.codeAt(document, i));
         }
         return text.toString();

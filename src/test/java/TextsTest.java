@@ -26,6 +26,16 @@ final class TextsTest {
         closeHours();
         readers();
         failedEditChangesNothing();
+        documentNumbers();
+        everyCode();
+        symbolsCountAsOne();
+        emptyText();
+        fromEmptyToFullAndBack();
+        frozenSpansAtTheEdges();
+        spansSideBySide();
+        closingAtTheEdges();
+        lockedPagesOfEachSheet();
+        lockedByAnyOrder();
         Check.end();
     }
 
@@ -333,5 +343,210 @@ final class TextsTest {
         Check.due("8 text", "abc", () -> Shop.textOf(p, 0));
         Check.due("13 span", 1, () -> p.spanFrom(0));
         Check.due("14 span", 3, () -> p.spanTo(0));
+    }
+
+    /** At most 3 documents have numbers from 0. */
+    private static void documentNumbers() {
+        Proofpress p = new Proofpress();
+        for (int count = 0; count < 3; count++) {
+            int next = count;
+            Check.thrown("2 number " + next + " is not there yet", MISSING, () -> p.version(next));
+            Check.due("2 number", next, p::addDocument);
+            Check.due("2 number " + next + " is there", 0, () -> p.version(next));
+        }
+        Check.due("3 the last document takes text", 1, () -> p.insert(2, 0, 'a'));
+        Check.due("9 the first has none of it", 0, () -> p.version(0));
+        Check.due("9 nor the second", 0, () -> p.version(1));
+    }
+
+    /** A letter from 'a' to 'z', a blank, or one of 16 symbols, and no other code. */
+    private static void everyCode() {
+        for (int code = -2; code < 300; code++) {
+            checkCode(code, code == 32 || code >= 97 && code <= 122);
+        }
+        for (int code = 128480; code < 128560; code++) {
+            checkCode(code, code >= 128512 && code <= 128527);
+        }
+        for (int code = 97; code <= 122; code++) {
+            checkCode(code + 65536, false);
+            checkCode(code - 65536, false);
+            checkCode(code + (1 << 24), false);
+            checkCode(-code, false);
+        }
+        checkCode(Integer.MAX_VALUE, false);
+        checkCode(Integer.MIN_VALUE, false);
+    }
+
+    private static void checkCode(int code, boolean isGood) {
+        Proofpress p = Shop.withText("b");
+        if (isGood) {
+            Check.due("3 code " + code, 2, () -> p.insert(0, 1, code));
+            Check.due("8 code " + code, code, () -> p.codeAt(0, 1));
+            Check.due("4 code " + code, code, () -> p.delete(0, 1));
+        } else {
+            Check.thrown("3 code " + code, UNFIT, () -> p.insert(0, 1, code));
+            Check.due("7 nothing was put in", 1, () -> p.length(0));
+        }
+    }
+
+    private static void symbolsCountAsOne() {
+        Proofpress p = new Proofpress();
+        p.addDocument();
+        for (int i = 0; i < 80; i++) {
+            int place = i;
+            Check.due("3 symbol " + i, i + 1, () -> p.insert(0, place, 128512 + place % 16));
+        }
+        Check.due("7 80 symbols are 80 characters", 80, () -> p.length(0));
+        Check.thrown("3 and no more", STATE, () -> p.insert(0, 80, 128512));
+        Check.due("8 the last", 128512 + 79 % 16, () -> p.codeAt(0, 79));
+        Check.due("15 on 3 sheets", 3, () -> p.sign(0));
+        Check.due("19 the symbol 8 stands first on page 1", 128520, () -> p.shown(0, 0, 16));
+        Check.due("4 a symbol goes as one", 128513, () -> p.delete(0, 1));
+        Check.due("7 one less", 79, () -> p.length(0));
+        Check.due("8 the next one in its place", 128514, () -> p.codeAt(0, 1));
+    }
+
+    private static void emptyText() {
+        Proofpress p = Shop.withText("");
+        Check.due("7 at first without any", 0, () -> p.length(0));
+        Check.due("9 at first 0", 0, () -> p.version(0));
+        Check.due("5 an insertion has one place", '-', () -> p.bar(0, 0, true));
+        Check.thrown("5 and no other", OUTSIDE, () -> p.bar(0, 1, true));
+        Check.thrown("5 a deletion has none", OUTSIDE, () -> p.bar(0, 0, false));
+        Check.thrown("4 nothing to delete", OUTSIDE, () -> p.delete(0, 0));
+        Check.thrown("8 nothing to read", OUTSIDE, () -> p.codeAt(0, 0));
+        Check.due("3 the first character", 1, () -> p.insert(0, 0, ' '));
+        Check.due("8 it is at place 0", 32, () -> p.codeAt(0, 0));
+        Check.due("4 it goes again", 32, () -> p.delete(0, 0));
+        Check.due("7 empty again", 0, () -> p.length(0));
+        Check.due("9 two edits", 2, () -> p.version(0));
+    }
+
+    private static void fromEmptyToFullAndBack() {
+        Proofpress p = Shop.withText("");
+        for (int i = 0; i < 80; i++) {
+            int count = i + 1;
+            Check.due("3 character " + count, count, () -> p.insert(0, 0, 97 + count % 26));
+            Check.due("7 length " + count, count, () -> p.length(0));
+        }
+        Check.thrown("3 the 81st", STATE, () -> p.insert(0, 0, 'a'));
+        Check.due("9 the 81st counts as no edit", 80, () -> p.version(0));
+        Check.due("8 the first that was put in is the last", 98, () -> p.codeAt(0, 79));
+        for (int i = 79; i >= 0; i--) {
+            int left = i;
+            int code = 97 + (80 - left) % 26;
+            Check.due("4 down to " + left, code, () -> p.delete(0, left));
+        }
+        Check.due("7 nothing is left", 0, () -> p.length(0));
+        Check.due("9 all edits", 160, () -> p.version(0));
+    }
+
+    /** Spans of one, of two and of all characters, at the start and at the end of a text. */
+    private static void frozenSpansAtTheEdges() {
+        checkFrozen("abcd", 0, 1, "-----", "f---");
+        checkFrozen("abcd", 0, 2, "-f---", "ff--");
+        checkFrozen("abcd", 1, 3, "--f--", "-ff-");
+        checkFrozen("abcd", 2, 4, "---f-", "--ff");
+        checkFrozen("abcd", 3, 4, "-----", "---f");
+        checkFrozen("abcd", 0, 4, "-fff-", "ffff");
+        checkFrozen("a", 0, 1, "--", "f");
+    }
+
+    private static void checkFrozen(String text, int from, int to, String insertions, String deletions) {
+        Proofpress p = Shop.withText(text);
+        p.comment(0, from, to);
+        Check.due("5 insertions at " + from + " to " + to, insertions, () -> bars(p, true));
+        Check.due("5 deletions at " + from + " to " + to, deletions, () -> bars(p, false));
+    }
+
+    private static String bars(Proofpress p, boolean areInsertions) {
+        StringBuilder bars = new StringBuilder();
+        int end = areInsertions ? p.length(0) + 1 : p.length(0);
+        for (int place = 0; place < end; place++) {
+            bars.append(p.bar(0, place, areInsertions));
+        }
+        return bars.toString();
+    }
+
+    /** An insertion is barred by one comment with a character ahead and one behind, not by two that meet there. */
+    private static void spansSideBySide() {
+        Proofpress p = Shop.withText("abcdef");
+        p.comment(0, 1, 3);
+        p.comment(0, 3, 5);
+        Check.due("5 insertions where two spans meet", "--f-f--", () -> bars(p, true));
+        Check.due("5 deletions where two spans meet", "-ffff-", () -> bars(p, false));
+        Check.due("3 where two spans meet", 7, () -> p.insert(0, 3, 'x'));
+        Check.due("13 the first stays", 1, () -> p.spanFrom(0));
+        Check.due("14 the first stays", 3, () -> p.spanTo(0));
+        Check.due("13 the second moves", 4, () -> p.spanFrom(1));
+        Check.due("14 the second moves", 6, () -> p.spanTo(1));
+        Check.due("4 and between them it goes again", (int) 'x', () -> p.delete(0, 3));
+        p.comment(0, 2, 4);
+        Check.due("5 a third over both", "--fff--", () -> bars(p, true));
+        p.answer(2);
+        Check.due("5 the third is answered", "--f-f--", () -> bars(p, true));
+        p.answer(0);
+        Check.due("5 the first is answered", "----f--", () -> bars(p, true));
+        Check.due("5 and its places are free", "---ff-", () -> bars(p, false));
+    }
+
+    private static void closingAtTheEdges() {
+        Proofpress p = Shop.withText("a");
+        p.close(0, 0);
+        Check.due("5 closed at hour 0", 'c', () -> p.bar(0, 0, true));
+        p.close(0, 1);
+        Check.due("5 closing at hour 1", '-', () -> p.bar(0, 0, true));
+        Check.due("3 in time", 2, () -> p.insert(0, 0, 'b'));
+        p.pass(1);
+        Check.thrown("3 at the closing hour", BARRED, () -> p.insert(0, 0, 'b'));
+        Check.thrown("4 at the closing hour", BARRED, () -> p.delete(0, 0));
+        p.addDocument();
+        Shop.passTo(p, 998);
+        Check.due("3 the hour before 999", 1, () -> p.insert(1, 0, 'b'));
+        p.pass(1);
+        Check.thrown("3 the hour 999", BARRED, () -> p.insert(1, 0, 'b'));
+        Check.thrown("4 the hour 999", BARRED, () -> p.delete(1, 0));
+        Check.due("6 it was 999", 999, () -> p.close(1, 999));
+    }
+
+    /** The greatest page of each sheet, perhaps an empty one, locks its last place, and not the one behind it. */
+    private static void lockedPagesOfEachSheet() {
+        int[] lengths = {1, 33, 33, 65, 65, 65};
+        int[] sheets = {0, 0, 1, 0, 1, 2};
+        int[] greatest = {3, 7, 5, 11, 9, 7};
+        for (int i = 0; i < lengths.length; i++) {
+            Proofpress p = Shop.withOrder(Shop.letters(lengths[i]), 1);
+            Shop.type(p, 0, Shop.letters(80 - lengths[i]));
+            p.print(0, sheets[i]);
+            String what = "5 sheet " + sheets[i] + " of " + lengths[i];
+            int last = 8 * greatest[i] + 7;
+            Check.due(what + " locks page 0", 'l', () -> p.bar(0, 0, true));
+            if (last < 80) {
+                Check.due(what + " locks an insertion at " + last, 'l', () -> p.bar(0, last, true));
+                Check.due(what + " locks a deletion at " + last, 'l', () -> p.bar(0, last, false));
+                Check.due(what + " leaves the next page", '-', () -> p.bar(0, last + 1, true));
+            } else {
+                Check.due(what + " locks the end", 'l', () -> p.bar(0, 80, true));
+                Check.due(what + " locks the last", 'l', () -> p.bar(0, 79, false));
+            }
+        }
+    }
+
+    private static void lockedByAnyOrder() {
+        Proofpress p = Shop.withOrder("ab", 1);
+        p.addDocument();
+        Shop.type(p, 1, "ab");
+        p.sign(1);
+        p.order(0, 1, 5);
+        p.order(1, 1, 5);
+        Check.due("5 nothing on the press", '-', () -> p.bar(0, 0, true));
+        p.print(1, 0);
+        Check.due("5 the second order is of this document", 'l', () -> p.bar(0, 0, true));
+        Check.due("5 and not of the other", '-', () -> p.bar(1, 0, true));
+        p.pass(1);
+        Check.due("5 it has left", '-', () -> p.bar(0, 0, true));
+        p.print(2, 0);
+        Check.due("5 the third order is of the other", 'l', () -> p.bar(1, 0, false));
+        Check.due("5 and not of this document", '-', () -> p.bar(0, 0, false));
     }
 }
